@@ -1443,7 +1443,9 @@ public final class ChoiceDesk {
         /** Numbers the different n-tuples of below from 1 (0: all of it is empty): how many. */
         private int foldLayer(int[] below, int[] above, int length, int n) {
             int room = Math.min(powerFrom(2 * length), slots.length);
-            Arrays.fill(slots, 0, room, 0);
+            for (int i = 0; i < room; i++) {
+                slots[i] = 0;
+            }
             int known = 0;
             for (int i = 0; i < length; i++) {
                 if (isEmpty(below, i * n, n)) {

@@ -157,6 +157,12 @@ public final class PromiseTests {
     due(-2, x.saying(0, 0, 0, 0));
     due(-1, x.saying(0, 0, 0, 3));
     due(48, x.count(0, 1));
+    due(-1, x.saying(0, 2, 48, 0));
+    due(-1, x.saying(0, 4, 0, 48));
+    due(-1, x.rule(0, 48));
+    for (int i = 1; i < 4; i++) x.table(0, 0, -1, -1);
+    due(-1, x.saying(0, 8, 4, 0));
+    due(-1, x.row(0, 4, 0, 0, 0));
   }
 
   private static int wholesWith(ChoiceDesk x, int saying) {
@@ -449,6 +455,37 @@ public final class PromiseTests {
     due(1, x.same(2, 0));
   }
 
+  /** Values of one name may stand at other places, or be there in one book alone. */
+  private static void sameValues() {
+    ChoiceDesk x = new ChoiceDesk();
+    x.question(0, 1, 3, 112, 0);
+    x.question(0, 2, 0, 2, 0);
+    x.question(1, 2, 0, 2, 0);
+    x.question(1, 1, 0, 3, 0);
+    due(0, x.same(0, 1));
+    due(0, x.same(1, 0));
+    x.saying(1, 0, 1, 0);
+    x.saying(1, 2, 0, 0);
+    x.rule(1, 1);
+    due(1, x.same(0, 1));
+    due(1, x.same(1, 0));
+    x.drop(1, 1);
+    x.saying(1, 0, 1, 2);
+    x.saying(1, 2, 2, 0);
+    x.rule(1, 3);
+    due(0, x.same(0, 1));
+    due(0, x.same(1, 0));
+    ChoiceDesk y = new ChoiceDesk();
+    for (int b = 0; b < 2; b++) {
+      y.question(b, 7, 0, 2, 0);
+      y.saying(b, 0, 0, b);
+      y.rule(b, 0);
+    }
+    due(0, y.same(0, 1));
+    due(0, y.same(1, 0));
+    due(1, y.same(2, 3));
+  }
+
   private static void start() {
     ChoiceDesk x = threeQuestions();
     due(-1, x.start(4));
@@ -643,6 +680,35 @@ public final class PromiseTests {
     due(2, x.why(0, 3, 1));
     x.rule(0, 3);
     due(1, x.why(0, 3, 1));
+  }
+
+  /** One choice is a lesser reason than two, though its number is greater. */
+  private static void whyFewest() {
+    ChoiceDesk x = new ChoiceDesk();
+    for (int i = 0; i < 8; i++) x.question(0, i, 1, 2, 0);
+    for (int i = 0; i < 8; i++) x.saying(0, 0, i, 1);
+    x.saying(0, 3, 0, 1);
+    x.saying(0, 3, 8, 2);
+    x.saying(0, 3, 3, 4);
+    x.saying(0, 2, 7, 0);
+    x.saying(0, 5, 9, 11);
+    x.saying(0, 5, 10, 11);
+    x.saying(0, 5, 6, 11);
+    x.start(0);
+    for (int i = 0; i < 7; i++) x.choose(0, 6 - i, 1);
+    x.rule(0, 12);
+    due(0b111, x.why(0, 7, 1));
+    x.rule(0, 13);
+    due(0b11000, x.why(0, 7, 1));
+    x.rule(0, 14);
+    due(0b1000000, x.why(0, 7, 1));
+    x.drop(0, 13);
+    x.drop(0, 14);
+    due(-2, x.why(0, 7, 0));
+    x.back(0, 1);
+    due(-2, x.why(0, 7, 1));
+    x.choose(0, 7, 1);
+    due(0b10000101, x.why(0, 1, 1));
   }
 
   private static void standard() {
@@ -1150,7 +1216,7 @@ public final class PromiseTests {
     promise = 10; size();
     promise = 11; dead();
     promise = 12; needless();
-    promise = 13; same();
+    promise = 13; same(); sameValues();
     promise = 14; start();
     promise = 15; choose();
     promise = 16; back();
@@ -1158,7 +1224,7 @@ public final class PromiseTests {
     promise = 18; value();
     promise = 19; state();
     promise = 20; choice();
-    promise = 21; why(); whyTies();
+    promise = 21; why(); whyTies(); whyFewest();
   }
 
   private static void secondHalf() {

@@ -148,9 +148,11 @@ public final class RandomRuns {
   private String pick(int i, int calls) {
     String[] first = {"question", "price", "standard", "wholes", "size", "keep", "pair", "step", "turn"};
     String[] then = {"table", "row", "row", "saying", "saying", "saying", "saying", "rule", "turn", "pair", "step", "price", "start"};
+    String[] often = {"choose", "choose", "choose", "choose", "why", "may", "wish", "wish", "near"};
     int part = i * 10 / calls;
     if (part < 2 && r.nextInt(10) != 0) return first[r.nextInt(r.nextBoolean() ? 1 : first.length)];
     if (part < 4 && r.nextInt(10) != 0) return then[r.nextInt(then.length)];
+    if (r.nextInt(4) == 0) return often[r.nextInt(often.length)];
     return NAMES[r.nextInt(NAMES.length)];
   }
 
