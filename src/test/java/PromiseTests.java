@@ -127,6 +127,44 @@ public final class PromiseTests {
     due(0, y.question(2, 1, 0, 2, 0));
   }
 
+  /** Eight questions, the last with eight values: every inner row is used to its end. */
+  private static void fullBook() {
+    ChoiceDesk x = new ChoiceDesk();
+    for (int q = 0; q < 7; q++) x.question(0, q, 1, 2, 0);
+    due(7, x.question(0, 7, 3, 303, 0));
+    due(1024, x.wholes(0));
+    due(-1, x.dead(0, 8, 0));
+    due(-1, x.standard(0, 8, 0));
+    due(-1, x.turn(0, 8, 0));
+    due(-1, x.turn(0, 0, 8));
+    due(-1, x.size(0, 9));
+    due(-1, x.saying(0, 0, 8, 0));
+    due(-1, x.saying(0, 7, 256, 0));
+    due(-1, x.step(0, 256, 0, 0));
+    due(-1, x.pair(0, 64, 0, 0));
+    due(-1, x.table(0, 0, 8, -1));
+    due(-1, x.keep(0, 1, 0, 8));
+    x.start(0);
+    due(-1, x.choose(0, 8, 0));
+    due(-1, x.value(0, 8));
+    due(-1, x.near(0, 8));
+    due(9, x.size(0, -1));
+    x.wish(0, 7, 7, 3);
+    due(0, x.nearest(0));
+    due(7, x.near(0, 7));
+    x.price(0, 7, 7, 9);
+    x.step(0, 255, 10, 90);
+    due(99, x.limit(0, true));
+    due(0, x.limit(0, false));
+    due(8, x.fill(0));
+    due(7, x.choice(0, 7));
+    due(-1, x.choice(0, 8));
+    due(1, x.same(0, 0));
+    due(1, x.carry(0, 0));
+    due(0, x.lost(1));
+    due(255, x.state(1, 0));
+  }
+
   private static void sayingRefusals() {
     ChoiceDesk x = threeQuestions();
     x.question(0, 53, 3, 202, 0);
@@ -368,6 +406,26 @@ public final class PromiseTests {
     due(-1, x.size(2, 1));
     breakAll(x, 2);
     due(0, x.size(2, -1));
+  }
+
+  /**
+   * Three MANY of 3 things bar each a value of the last two questions for every thing they lack,
+   * so nearly every one of the 512 ways to begin has its own ways to go on.
+   */
+  private static void sizeOfLargeGraph() {
+    ChoiceDesk x = new ChoiceDesk();
+    for (int q = 0; q < 3; q++) x.question(0, q, 3, 303, 0);
+    x.question(0, 3, 0, 6, 0);
+    x.question(0, 4, 0, 5, 0);
+    for (int i = 0; i < 9; i++) {
+      int has = x.saying(0, 1, i / 3, i % 3);
+      int is = i < 6 ? x.saying(0, 0, 3, i) : x.saying(0, 0, 4, i - 6);
+      x.rule(0, x.saying(0, 5, is, has));
+    }
+    due(5376, x.wholes(0));
+    int[] places = {1, 8, 63, 504, 8, 1};
+    for (int k = 0; k <= 5; k++) due(places[k], x.size(0, k));
+    due(585, x.size(0, -1));
   }
 
   private static void dead() {
@@ -1205,7 +1263,7 @@ public final class PromiseTests {
 
   private static void firstHalf() {
     promise = 1; newObject();
-    promise = 2; question(); questionLimits();
+    promise = 2; question(); questionLimits(); fullBook();
     promise = 3; sayingRefusals(); sayingKinds();
     promise = 4; table();
     promise = 5; row();
@@ -1213,7 +1271,7 @@ public final class PromiseTests {
     promise = 7; drop();
     promise = 8; turn();
     promise = 9; wholes();
-    promise = 10; size();
+    promise = 10; size(); sizeOfLargeGraph();
     promise = 11; dead();
     promise = 12; needless();
     promise = 13; same(); sameValues();

@@ -185,12 +185,40 @@ public final class RandomRuns {
     }
   }
 
+  private void ask(String name, int... a) throws IllegalAccessException {
+    String due = answer(PLAIN.get(name), plain, ints(a));
+    String got = answer(REAL.get(name), real, ints(a));
+    if (!due.equals(got)) {
+      wrong++;
+      System.out.println("large graph: " + name + Arrays.toString(a) + " answered " + got + ", due is " + due);
+    }
+  }
+
+  /** Graphs with hundreds of places in a layer, which runs by chance hardly ever have. */
+  private void goLarge() throws IllegalAccessException {
+    for (int q = 0; q < 3; q++) ask("question", 0, q, 3, 303, 0);
+    ask("question", 0, 3, 0, 6, 0);
+    ask("question", 0, 4, 0, 6, 0);
+    for (int i = 0; i < 12; i++) {
+      ask("saying", 0, 1, i < 9 ? i / 3 : r.nextInt(3), i % 3);
+      ask("saying", 0, 0, 3 + i / 6, i % 6);
+      ask("saying", 0, r.nextInt(4) == 0 ? 4 : 5, 3 * i + 1, 3 * i);
+      ask("rule", 0, 3 * i + 2);
+    }
+    for (int i = 0; i < 12; i++) {
+      for (int k = -1; k <= 5; k++) ask("size", 0, k);
+      ask("turn", 0, r.nextInt(5), r.nextInt(5));
+      if (i % 4 == 3) ask("drop", 0, 3 * r.nextInt(12) + 2);
+    }
+  }
+
   public static void main(String[] args) throws IllegalAccessException {
     int runs = args.length > 0 ? Integer.parseInt(args[0]) : 600;
     int first = args.length > 1 ? Integer.parseInt(args[1]) : 0;
     for (int run = first; run < first + runs; run++) {
       new RandomRuns(run).go(run, 512);
     }
+    for (int run = 0; run < 10; run++) new RandomRuns(run).goLarge();
     if (args.length > 0) SEEN.forEach((k, v) -> System.out.println(k + ": " + v));
     System.out.println(wrong == 0 ? "all runs are as due" : wrong + " runs are not as due");
     if (wrong != 0) System.exit(1);
