@@ -853,11 +853,7 @@ public final class ChoiceDesk {
         try {
             q.fail();
         } catch (IllegalStateException e) {
-            return YES;
-        } catch (IllegalArgumentException e) {
-            return NUMBER;
-        } catch (UnsupportedOperationException e) {
-            return MANY;
+            return q.number;
         }
         return NO_FAILURE;
     }
@@ -866,6 +862,8 @@ public final class ChoiceDesk {
     private static class Question {
         final int name;
         final int[] values;
+        // Its number in its book, which a shelf that holds it can't tell.
+        int number = NONE;
 
         Question(int name, int[] values) {
             this.name = name;
@@ -933,7 +931,7 @@ public final class ChoiceDesk {
 
         @Override
         void fail() {
-            throw new IllegalArgumentException("a number fails");
+            throw new IllegalStateException("a number fails");
         }
     }
 
@@ -962,7 +960,7 @@ public final class ChoiceDesk {
 
         @Override
         void fail() {
-            throw new UnsupportedOperationException("many fail");
+            throw new IllegalStateException("many fail");
         }
     }
 
@@ -1090,6 +1088,7 @@ public final class ChoiceDesk {
 
         int addQuestion(Question q) {
             questions[questionCount] = q;
+            q.number = questionCount;
             turn[questionCount] = questionCount;
             questionCount++;
             ways *= q.values.length;

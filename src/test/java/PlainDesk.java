@@ -598,7 +598,9 @@ public final class PlainDesk {
     if (d < 0 || d > 7) return -1;
     if (shelves[d] == null) return -11;
     if (!(shelves[d] instanceof Q)) return -12;
-    int kind = ((Q) shelves[d]).kind;
-    return kind == 0 ? -15 : kind;
+    if (((Q) shelves[d]).kind == 0) return -15;
+    int number = -1;
+    for (B b : books) number = Math.max(number, b.questions.indexOf(shelves[d]));
+    return number;
   }
 }

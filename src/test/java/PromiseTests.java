@@ -1261,6 +1261,31 @@ public final class PromiseTests {
     due(-11, x.toss(0));
   }
 
+  /** The number is that of the question in its book, whatever its kind, name, shelf or turn. */
+  private static void tossNumbers() {
+    ChoiceDesk x = new ChoiceDesk();
+    int[] kinds = {3, 2, 1, 0, 1, 3, 2, 0};
+    int[] hows = {101, 1, 2, 1, 2, 102, 2, 2};
+    for (int q = 0; q < 8; q++) {
+      due(-1, x.question(1, 70 - q, kinds[q], 9, 0));
+      due(q, x.question(1, 70 - q, kinds[q], hows[q], 5));
+      x.keep(7 - q, 1, 1, q);
+    }
+    for (int q = 0; q < 8; q++) due(kinds[q] == 0 ? -15 : q, x.toss(7 - q));
+    x.turn(1, 6, 0);
+    x.turn(1, 0, 7);
+    x.question(2, 64, 2, 2, 5);
+    x.keep(0, 1, 2, 0);
+    x.keep(7, 1, 1, 6);
+    due(0, x.toss(0));
+    due(6, x.toss(1));
+    due(6, x.toss(7));
+    due(-1, x.keep(7, 1, 2, 1));
+    due(6, x.toss(7));
+    x.keep(7, 1, 1, 0);
+    due(0, x.toss(7));
+  }
+
   private static void firstHalf() {
     promise = 1; newObject();
     promise = 2; question(); questionLimits(); fullBook();
@@ -1305,7 +1330,7 @@ public final class PromiseTests {
     promise = 38; element();
     promise = 39; copy();
     promise = 40; weight();
-    promise = 41; toss();
+    promise = 41; toss(); tossNumbers();
   }
 
   public static void main(String[] args) {
