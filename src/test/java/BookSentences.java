@@ -603,6 +603,13 @@ final class BookSentences extends Sentences {
       due(1, x.size(1, -1));
       due(7, Desks.mostWays().size(0, -1));
       due(9, Desks.eight().size(0, -1));
+      int[][] values = {{5, 5, 5, 5, 5, 6}, {5, 5, 5, 5, 4, 4, 2}, {2, 2, 2, 2, 2, 2, 2, 6}, {1, 1, 1}};
+      ChoiceDesk large = new ChoiceDesk();
+      for (int b = 0; b < 4; b++) {
+        for (int q = 0; q < values[b].length; q++) large.question(b, q, 0, values[b][q], 0);
+      }
+      for (int b = 0; b < 8; b++) due(values[b % 4].length + 1, large.size(b % 4, -1));
+      due(20000, large.wholes(1));
     });
     told("-1.", () -> {
       refusedOutside(0, 3, -1, Desks::busy, (x, b) -> x.size(b, 0));

@@ -44,16 +44,16 @@ public final class FaceTests {
       int price(int, int, int, int)
       int pair(int, int, int, int)
       int step(int, int, int, int)
-      long cost(int)
-      long limit(int, boolean)
+      long cost(int) throws IllegalArgumentException, IllegalStateException
+      long limit(int, boolean) throws IllegalArgumentException, IllegalStateException
       int carry(int, int)
       int lost(int)
       int count(int, int)
       int keep(int, int, int, int)
       int make(int, int, int)
-      long element(int, int)
+      long element(int, int) throws IllegalArgumentException, IllegalStateException
       int copy(int, int, int, int, int)
-      int weight(int)
+      int weight(int) throws IllegalArgumentException, IllegalStateException
       int toss(int)
       """;
   private static final String[] FORBIDDEN = {
@@ -75,7 +75,9 @@ public final class FaceTests {
 
   private static String told(Method m) {
     String types = Arrays.toString(Arrays.stream(m.getParameterTypes()).map(Class::getSimpleName).toArray());
-    return m.getReturnType().getSimpleName() + " " + m.getName() + "(" + types.substring(1, types.length() - 1) + ")";
+    String thrown = Arrays.toString(Arrays.stream(m.getExceptionTypes()).map(Class::getSimpleName).toArray());
+    return m.getReturnType().getSimpleName() + " " + m.getName() + "(" + types.substring(1, types.length() - 1) + ")"
+        + (thrown.equals("[]") ? "" : " throws " + thrown.substring(1, thrown.length() - 1));
   }
 
   private static void face() {

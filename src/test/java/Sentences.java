@@ -146,13 +146,22 @@ abstract class Sentences {
     if (!as.equals(was)) note("a refused call changed something: " + was + " became " + as);
   }
 
+  /** The call does change something, and looks tell it, so that refused(..) can be trusted. */
+  static void changes(Maker maker, Ask call) {
+    ChoiceDesk x = maker.make();
+    call.of(x);
+    asked++;
+    if (Looks.at(x).equals(Looks.at(maker.make()))) note("looks don't tell that something was changed");
+  }
+
   /** Numbers outside low .. high: the next ones, the greatest, and some that wrap into it. */
   static Set<Integer> outside(int low, int high) {
-    int[] tried = {low - 1, high + 1, low - 2, low - 256, low + 256, low + 65536, low | LEAST, high | 1 << 30, LEAST, MOST};
+    int[] next = {low - 1, high + 1, low - 2, LEAST, MOST};
+    int[] wrapped = {low - 256, low + 256, low + 65536, low | LEAST, high | 1 << 30};
     Set<Integer> found = new HashSet<>();
-    for (int n : tried) {
-      if (n < low || n > high) found.add(n);
-    }
+    for (int n : next) found.add(n);
+    for (int n : wrapped) found.add(n);
+    found.removeIf(n -> n >= low && n <= high);
     return found;
   }
 

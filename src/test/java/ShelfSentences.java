@@ -95,8 +95,12 @@ final class ShelfSentences extends Sentences {
       x.choose(1, 2, 0);
       due(0, x.limit(1, true));
       refusedOutside(0, 63, -1, Desks::eight, (y, questions) -> y.pair(0, questions, 10, 1));
-      for (int questions : new int[] {65, 72, 129, 257, 65537, -7, -8, -63}) refused(-1, Desks::eight, y -> y.pair(0, questions, 0, 1));
-      for (int questions : new int[] {3, 4, 7, 11, 19, 24, 25, 32, 56}) refused(-1, Desks::three, y -> y.pair(0, questions, 0, 1));
+      for (int questions : new int[] {65, 72, 129, 257, 65537, -7, -8, -63}) {
+        refused(-1, Desks::eight, y -> y.pair(0, questions, 0, 1));
+      }
+      for (int questions : new int[] {3, 4, 7, 11, 19, 24, 25, 32, 56}) {
+        refused(-1, Desks::three, y -> y.pair(0, questions, 0, 1));
+      }
       for (int questions : new int[] {1, 2, 8, 10, 16, 17}) due(1, Desks.three().pair(0, questions, 0, 1));
     });
     told("VALUES as 10 a + b,", () -> {
@@ -841,7 +845,9 @@ final class ShelfSentences extends Sentences {
       int[] sets = {1, 2, 1, 1, 3, 4, 1, 8, 7, 6, 1, 1};
       for (int i = 0; i < hows.length; i++) due(110 + sets[i], weightOf(3, hows[i], 50));
     });
-    told("IllegalArgumentException: no such SHELF;", () -> refusedOutside(0, 7, ARGUMENT, Desks::busy, (x, d) -> x.weight(d)));
+    told("IllegalArgumentException: no such SHELF;", () -> {
+      refusedOutside(0, 7, ARGUMENT, Desks::busy, (x, d) -> x.weight(d));
+    });
     told("IllegalStateException: no QUESTION is held there.", () -> {
       for (int d : new int[] {1, 2, 4, 7}) refused(STATE, Desks::busy, x -> x.weight(d));
       ChoiceDesk x = Desks.busy();

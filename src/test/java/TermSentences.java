@@ -105,7 +105,8 @@ final class TermSentences extends Sentences {
         }
       }
     });
-    told("3 MANY: of n things, 1 to 3, sets as bits (thing i: bit i) of at least so many things and at most so many.", () -> {
+    told("3 MANY: of n things, 1 to 3, sets as bits (thing i: bit i)"
+        + " of at least so many things and at most so many.", () -> {
       for (int things = 1; things <= 3; things++) {
         for (int least = 0; least <= things; least++) {
           for (int greatest = least; greatest <= things; greatest++) {
@@ -517,6 +518,21 @@ final class TermSentences extends Sentences {
         refusedOutside(0, 11, -1, Desks::fullOfOrders, call);
         refused(-1, Desks::three, y -> call.of(y, 0));
       }
+      ChoiceDesk two = Desks.mostWays();
+      for (int q = 0; q < 6; q++) two.question(1, q, 1, 2, 0);
+      for (int o = 0; o < 2; o++) {
+        two.start(o);
+        two.price(o, 0, 0, 7 - 14 * o);
+        two.wish(o, 0, 1, 5 + o);
+      }
+      for (int q = 0; q < 6; q++) two.rule(1, two.saying(1, 0, q, 0));
+      for (int i = 0; i < 4; i++) {
+        due(i % 2 == 0 ? 20000 : 1, two.state(i % 2, 2));
+        due(i % 2 == 0 ? 0 : 6, two.nearest(i % 2));
+        due(i % 2 == 0 ? 1 : 0, two.near(i % 2, 0));
+        due(i % 2 == 0 ? 7 : -7, two.limit(i % 2, true));
+        due(i % 2 == 0 ? 0 : -7, two.limit(i % 2, false));
+      }
       for (AskBy call : Calls.BY_ORDER_THAT_THROW) {
         refusedOutside(0, 1, ARGUMENT, Desks::busy, call);
         refusedOutside(0, 11, ARGUMENT, Desks::fullOfOrders, call);
@@ -651,6 +667,12 @@ final class TermSentences extends Sentences {
     told("WHY a VALUE can't be of a QUESTION in an ORDER: the set of its CHOICES of other QUESTIONS,", () -> {
       due(0b1010, barredBy(0b1010).why(0, 7, 1));
       due(0b1111111, barredBy(0b1111111).why(0, 7, 1));
+      ChoiceDesk first = Desks.yeses(8);
+      first.rule(0, first.saying(0, 4, first.saying(0, 0, 0, 1), first.saying(0, 0, 1, 0)));
+      first.start(0);
+      first.choose(0, 1, 1);
+      first.choose(0, 2, 1);
+      due(0b10, first.why(0, 0, 0));
       ChoiceDesk x = barredBy(0b1010);
       x.choose(0, 7, 0);
       due(0b1010, x.why(0, 7, 1));
@@ -670,6 +692,15 @@ final class TermSentences extends Sentences {
       due(0, x.why(0, 7, 1));
       due(0, Desks.deadEnd().why(0, 0, 2));
       due(0, Desks.deadEnd().why(0, 1, 0));
+      ChoiceDesk lone = Desks.yeses(8);
+      lone.start(0);
+      lone.choose(0, 3, 1);
+      lone.choose(0, 0, 1);
+      lone.rule(0, lone.saying(0, 7, 255, 0));
+      due(1, lone.why(0, 7, 0));
+      due(0, lone.why(0, 7, 1));
+      due(8, lone.why(0, 0, 0));
+      due(0, lone.why(0, 0, 1));
     });
     told("of these with the least number as bits (QUESTION q: bit q).", () -> {
       due(1, barredBy(0b1000000, 1, 0b1000).why(0, 7, 1));
@@ -864,7 +895,8 @@ final class TermSentences extends Sentences {
   }
 
   private static void orderOfRefusals() {
-    told("Answers of several refusals are the first one here: -1 no such thing, a number out of range, or not as told;", () -> {
+    told("Answers of several refusals are the first one here:"
+        + " -1 no such thing, a number out of range, or not as told;", () -> {
       refused(-1, () -> Desks.yeses(8), x -> x.question(0, 7, 1, 2, 0));
       refused(-1, () -> Desks.yeses(8), x -> x.question(0, 8, 1, 3, 0));
       refused(-1, Desks::mostWays, x -> x.question(0, 5, 1, 2, 0));
@@ -926,6 +958,40 @@ final class TermSentences extends Sentences {
       ChoiceDesk full = Desks.mostWays();
       due(-2, full.question(0, 6, 1, 2, 0));
       due(6, full.question(0, 6, 0, 1, 0));
+      looksTellChanges();
     });
+  }
+
+  private static void looksTellChanges() {
+    Ask[] calls = {
+      x -> x.question(2, 9, 0, 1, 0),
+      x -> x.saying(0, 7, 0, 0),
+      x -> x.table(0, 0, -1, -1),
+      x -> x.row(0, 0, 2, 0, 0),
+      x -> x.rule(0, 2),
+      x -> x.drop(0, 0),
+      x -> x.turn(0, 0, 0),
+      x -> x.start(0),
+      x -> x.choose(0, 3, 1),
+      x -> x.choose(0, 0, 2),
+      x -> x.back(0, 2),
+      x -> x.standard(0, 1, 1),
+      x -> x.fill(0),
+      x -> x.wish(0, 0, 2, 1),
+      x -> x.wish(0, 1, 0, 8),
+      x -> x.price(0, 2, 2, 1),
+      x -> x.pair(0, 2, 10, 1000000),
+      x -> x.step(0, 5, 13, 1),
+      x -> x.carry(0, 0),
+      x -> x.keep(0, 0, 0, 0),
+      x -> x.keep(4, 1, 0, 3),
+      x -> x.keep(0, 3, 0, 0),
+      x -> x.keep(1, 4, 0, 1),
+      x -> x.make(4, 3, 0),
+      x -> x.make(4, 4, 0),
+      x -> x.copy(1, 0, 1, 1, 1),
+      x -> x.copy(2, 1, 2, 0, 1),
+    };
+    for (Ask call : calls) changes(Desks::busy, call);
   }
 }
