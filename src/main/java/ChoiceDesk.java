@@ -49,6 +49,7 @@ public final class ChoiceDesk {
 
     private static final int WRONG = -1;
     private static final int FULL = -2;
+    private static final int NOTHING_TO_TELL = -2;
     private static final int BARRED = -3;
     private static final int DEAD_END = -4;
     private static final int NOTHING_HELD = -11;
@@ -226,7 +227,7 @@ public final class ChoiceDesk {
         }
         int place = o.chosen[question];
         if (place == NONE) {
-            return FULL;
+            return NOTHING_TO_TELL;
         }
         o.takeBack(question);
         return q.values[place];
@@ -252,7 +253,7 @@ public final class ChoiceDesk {
             o.fitInto(fits, NONE);
             place = broughtPlace(o, question);
         }
-        return place == NONE ? FULL : q.values[place];
+        return place == NONE ? NOTHING_TO_TELL : q.values[place];
     }
 
     public int state(int order, int what) {
@@ -289,7 +290,7 @@ public final class ChoiceDesk {
         if (place == NONE) {
             return WRONG;
         }
-        return canBe(o, question, place) ? FULL : leastReason(o, question, place);
+        return canBe(o, question, place) ? NOTHING_TO_TELL : leastReason(o, question, place);
     }
 
     public int standard(int book, int question, int value) {
